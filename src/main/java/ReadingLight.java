@@ -911,11 +911,11 @@ public final class ReadingLight {
 
         private static int joined(int sign, int left, int right) {
             switch (sign) {
-                case '|': return asInt(left != 0 || right != 0);
-                case '&': return asInt(left != 0 && right != 0);
-                case '<': return asInt(left < right);
-                case '=': return asInt(left == right);
-                case '>': return asInt(left > right);
+                case '|': return left != 0 || right != 0 ? 1 : 0;
+                case '&': return left != 0 && right != 0 ? 1 : 0;
+                case '<': return left < right ? 1 : 0;
+                case '=': return left == right ? 1 : 0;
+                case '>': return left > right ? 1 : 0;
                 case '+': return left + right;
                 case '-': return left - right;
                 case '*': return left * right;

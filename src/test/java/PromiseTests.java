@@ -209,6 +209,9 @@ public final class PromiseTests {
         due(6, "goer 1", x.change(1, 0, 0), BEYOND);
         due(6, "bearing stays", x.ofGoer(0, 2), 15);
         due(6, "distance stays", x.ofGoer(0, 3), 99);
+        due(6, "bearing 0", x.change(0, 0, 0), 15);
+        due(6, "distance 0", x.change(0, 1, 0), 99);
+        due(6, "IN", x.count(8), 1);
         due(7, "words", x.words(99999), 0);
         due(7, "too many", x.words(100000), BEYOND);
         due(7, "too few", x.words(-1), BEYOND);
@@ -218,7 +221,8 @@ public final class PromiseTests {
     private static void becomeAndAs() {
         ReadingLight x = withGoers(7, 3, 4);
         due(8, "a bull", x.become(0, 62), 0);
-        due(8, "a cat", x.become(0, 39), 6);
+        due(8, "a goer of 0", x.become(0, 0), 6);
+        due(8, "a cat", x.become(0, 39), 0);
         due(8, "km 70", x.become(0, 70), BEYOND);
         due(8, "km -1", x.become(0, -1), BEYOND);
         due(8, "goer 1", x.become(1, 0), BEYOND);
@@ -278,6 +282,9 @@ public final class PromiseTests {
         due(11, "or none", worth("0|0|0"), 0);
         due(11, "and", worth("5&9"), 1);
         due(11, "and none", worth("5&0"), 0);
+        due(11, "and of ones", worth("1&1"), 1);
+        due(11, "or in brackets", worth("(0|7)*5"), 5);
+        due(11, "not more", worth("4>4"), 0);
         due(11, "and before or", worth("1|0&0"), 1);
         due(11, "less", worth("3<4"), 1);
         due(11, "not less", worth("4<4"), 0);
@@ -360,6 +367,10 @@ public final class PromiseTests {
         due(14, "10000", x.loose(40), STATE);
         due(13, "beyond first", x.steps(61), BEYOND);
         due(14, "beyond first", x.loose(41), BEYOND);
+        x.image();
+        due(14, "9999", x.loose(39), 0);
+        due(14, "9999", x.count(1), 9999);
+        due(37, "9960", x.restore(), 9960);
         due(13, "9999", x.steps(39), 0);
         due(13, "one more", x.steps(1), STATE);
         due(14, "one more", x.loose(1), STATE);
@@ -414,6 +425,16 @@ public final class PromiseTests {
         p.words(5);
         p.steps(1);
         due(13, "the light is off the chair", p.count(7), 5);
+
+        p.set(2, 0);
+        p.set(0, 0);
+        p.words(1234);
+        p.steps(1);
+        due(13, "w is the rest by 100", p.count(7), 1268);
+        text(p, 1, "s");
+        p.words(0);
+        p.steps(11);
+        due(13, "s is the rest by 16", p.count(7), 6 + 7 + 8 + 9 + 10 + 11 + 12 + 13 + 14 + 15 + 0);
 
         ReadingLight q = withGoers(10, 0, 9);
         text(q, 0, "s=1");
@@ -485,6 +506,9 @@ public final class PromiseTests {
         ReadingLight x = withGoers(30, 0, 5);
         due(17, "never", x.first(0), NONE);
         due(17, "never", x.first(1), NONE);
+        x.become(0, 0);
+        due(17, "the first of all", x.first(1), 0);
+        x.become(0, 30);
         due(17, "what 2", x.first(2), BEYOND);
         due(17, "what -1", x.first(-1), BEYOND);
         x.goer(0, 0, 0);
@@ -511,6 +535,11 @@ public final class PromiseTests {
         due(18, "36", x.reads(36), 49);
         due(18, "37", x.reads(37), NONE);
         due(18, "999", x.reads(999), NONE);
+        x.set(4, 11);
+        due(18, "the last of 60", x.reads(36), 60);
+        x.set(4, 12);
+        due(18, "one too late", x.reads(36), NONE);
+        x.set(4, 0);
         x.set(2, 0);
         text(x, 1, "99");
         due(18, "999", x.reads(999), 11);
@@ -559,6 +588,8 @@ public final class PromiseTests {
             x.goer(0, 0, 0);
         }
         due(20, "all eight, but the cat", x.lead(251, 4), 5);
+        x.change(2, 1, 0);
+        due(20, "all eight", x.lead(255, 4), 5);
         due(20, "none such", x.lead(256, 1), BEYOND);
     }
 
@@ -664,6 +695,9 @@ public final class PromiseTests {
         due(25, "what 2", x.from(0, 0, 2), BEYOND);
         due(25, "what -1", x.from(0, 0, -1), BEYOND);
         due(25, "it stays", x.ofGoer(0, 2), 9);
+        x.change(0, 1, 99);
+        due(25, "the farthest", x.from(0, 60, 1), 99);
+        due(25, "the farthest", x.from(0, 60, 0), 0);
     }
 
     private static void cost() {
@@ -769,6 +803,7 @@ public final class PromiseTests {
         due(32, "missing ahead of no such number", x.put(1, -1, 1), NONE);
         due(31, "missing again, n doesn't matter", x.sheet(0, 0, -5), 1);
         due(31, "missing", x.put(0, 0, 1), NONE);
+        due(31, "missing again, n doesn't matter", x.sheet(0, 0, 41), 1);
         due(31, "none", x.sheet(0, 16, 0), 1);
         due(31, "no number", x.put(0, 0, 1), BEYOND);
 
@@ -783,7 +818,8 @@ public final class PromiseTests {
         due(32, "all 32", y.judge(0), 0);
         withSheet(y, 0, 32, 5);
         y.sheet(0, 32, 1);
-        due(31, "all 0", y.judge(0), 0);
+        y.change(0, 0, 0);
+        due(31, "all 0", y.judge(0), -1);
     }
 
     private static void moves() {
