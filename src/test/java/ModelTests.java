@@ -6,8 +6,9 @@ import java.util.Random;
 import java.util.TreeSet;
 
 /**
- * Long runs of drawn calls, each answer beside that of a second program, which was written from
- * the document alone and searches where the class reckons. The draws are the same every time.
+ * Long runs of drawn calls, each answer beside that of a second program, which searches where the
+ * class reckons. It is by the same hand: it finds slips, but not a misreading of the document that
+ * both share. The draws are the same every time.
  */
 public final class ModelTests {
     private static final int RUNS = 400;
