@@ -728,7 +728,9 @@ public final class ReadingLight {
             z = other.z;
             goers = other.goers;
             // Goers and laws never change in themselves, so both may hold the same ones.
-            System.arraycopy(other.who, 0, who, 0, MOST_GOERS);
+            for (int g = 0; g < MOST_GOERS; g++) {
+                who[g] = other.who[g];
+            }
             System.arraycopy(other.bearing, 0, bearing, 0, MOST_GOERS);
             System.arraycopy(other.distance, 0, distance, 0, MOST_GOERS);
             reaches = other.reaches;
@@ -844,6 +846,15 @@ public final class ReadingLight {
             return true;
         }
 
+        /** The latest number, which goes; 0 if there is none. */
+        int take() {
+            if (size <= 0) {
+                return 0;
+            }
+            size--;
+            return numbers[size];
+        }
+
         void clear() {
             size = 0;
         }
@@ -874,32 +885,34 @@ public final class ReadingLight {
         static final int[] WITHOUT_REACHES = {-1, 20, -'<'};
         static final int[] WITHOUT_PAGE = {9};
 
+        private static final int LAST_NAME = -3;
+
         private final int[] code;
         private final int most;
-        private final int[] stack;
+        private final Row stack;
 
         Law(int[] code, int most) {
             this.code = code;
             this.most = most;
             // No sign leaves more than one number behind.
-            this.stack = new int[code.length];
+            this.stack = new Row(code.length);
         }
 
         int value(int a, int b, int c) {
-            int top = -1;
+            stack.clear();
             for (int i = 0; i < code.length; i++) {
                 int sign = code[i];
-                if (sign >= -3) {
-                    top++;
-                    stack[top] = sign >= 0 ? sign : named(sign, a, b, c);
+                if (sign >= LAST_NAME) {
+                    stack.add(sign >= 0 ? sign : named(sign, a, b, c));
                 } else if (sign == -'!') {
-                    stack[top] = asInt(stack[top] == 0);
+                    stack.add(asInt(stack.take() == 0));
                 } else {
-                    top--;
-                    stack[top] = joined(-sign, stack[top], stack[top + 1]);
+                    int right = stack.take();
+                    int left = stack.take();
+                    stack.add(joined(-sign, left, right));
                 }
             }
-            return Math.max(0, Math.min(stack[0], most));
+            return Math.max(0, Math.min(stack.take(), most));
         }
 
         private static int named(int name, int a, int b, int c) {
