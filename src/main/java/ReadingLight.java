@@ -31,14 +31,14 @@ public final class ReadingLight {
     private final Scene thought;
     private final Scene kept;
     private int images;
-    private final Row tape = new Row(TAPE_SIZE);
+    private final Reader reader = new Reader();
+    private final Row tape = reader.tape;
     private final Row keptTape = new Row(TAPE_SIZE);
     private final Row waiting = new Row(MOST_WAITING);
     private final Row keptWaiting = new Row(MOST_WAITING);
     private final Row bodies = new Row(TRACE_SIZE);
     private final Row[] sheets = new Row[SHEETS];
     private final int[] sheetBits = new int[SHEETS];
-    private final Reader reader = new Reader(tape);
     private final int[] errors = new int[KIND + 1];
 
     public ReadingLight() {
@@ -945,15 +945,11 @@ public final class ReadingLight {
         private static final int MOST_OPEN = 5;
         private static final int MOST_DIGITS = 4;
 
-        private final Row tape;
+        private final Row tape = new Row(TAPE_SIZE);
         private final Row code = new Row(TAPE_SIZE);
         private String names = "";
         private int at;
         private boolean broken;
-
-        Reader(Row tape) {
-            this.tape = tape;
-        }
 
         /** Whether the tape is a text; if not, at is the place of its fault. */
         boolean read(String namesOfUse) {
