@@ -860,18 +860,21 @@ public final class ReadingLight {
         }
 
         void becomeZeros(int n) {
-            Arrays.fill(numbers, 0);
-            size = n;
+            clear();
+            for (int i = 0; i < n; i++) {
+                add(0);
+            }
         }
 
         int[] copy() {
             return Arrays.copyOf(numbers, size);
         }
 
-        /** The other has the same room. */
         void copyFrom(Row other) {
-            System.arraycopy(other.numbers, 0, numbers, 0, numbers.length);
-            size = other.size;
+            clear();
+            for (int i = 0; i < other.size; i++) {
+                add(other.numbers[i]);
+            }
         }
     }
 

@@ -26,7 +26,11 @@ public final class FaceTests {
         face();
         members();
         words();
+        methodsStayShort();
         neverThrows();
+        room();
+        readmeTellsOfEachCall();
+        readmeExample();
         System.out.println(wrong == 0 ? "the face and the rules are kept" : wrong + " faults");
         if (wrong != 0) {
             System.exit(1);
@@ -128,6 +132,61 @@ public final class FaceTests {
         }
     }
 
+    /** Rule 11: some sixty lines. */
+    private static void methodsStayShort() throws Exception {
+        String[] lines = Files.readString(Path.of("src/main/java/ReadingLight.java")).split("\n");
+        int methods = 0;
+        for (int i = 0; i < lines.length; i++) {
+            Matcher head = Pattern.compile("( {4}| {8})[a-zA-Z].*\\) \\{").matcher(lines[i]);
+            if (!head.matches() || lines[i].trim().matches("(for|if|while|switch)\\b.*")) {
+                continue;
+            }
+            int end = i;
+            while (!lines[end].equals(head.group(1) + "}")) {
+                end++;
+            }
+            methods++;
+            if (end - i + 1 > 60) {
+                fault("more than sixty lines: " + lines[i].trim());
+            }
+        }
+        if (methods < 41) {
+            fault("only " + methods + " methods were found");
+        }
+    }
+
+    /** What an object and 512 of the dearest calls make is far below the room that all calls live in. */
+    private static void room() {
+        com.sun.management.ThreadMXBean bean = (com.sun.management.ThreadMXBean) java.lang.management.ManagementFactory.getThreadMXBean();
+        long thread = Thread.currentThread().getId();
+        new ReadingLight().text(0);
+        long ahead = bean.getThreadAllocatedBytes(thread);
+        ReadingLight x = new ReadingLight();
+        long made = bean.getThreadAllocatedBytes(thread) - ahead;
+        for (int i = 0; i < 8; i++) {
+            x.goer(60, i, 99);
+        }
+        for (int i = 0; i < 30; i++) {
+            // d+d+ .. d+19, 50 bytes of it
+            for (int w = 0; w < 6; w++) {
+                x.feed(0x2b642b642b642b64L, 8);
+            }
+            x.feed(0x3931L, 2);
+            if (x.text(0) != 1) {
+                fault("the longest text is none");
+            }
+        }
+        long texts = bean.getThreadAllocatedBytes(thread) - ahead;
+        for (int i = 0; i < 100; i++) {
+            x.lead(255, 60);
+            x.dark(60);
+        }
+        long all = bean.getThreadAllocatedBytes(thread) - ahead;
+        if (made > 10000 || texts > 40000 || all - texts > 10000) {
+            fault("too much is made: " + made + " bytes by an object, " + texts + " by texts, " + (all - texts) + " by thoughts");
+        }
+    }
+
     /** Any arguments in any state: the machine never throws. */
     private static void neverThrows() throws Exception {
         int[] odd = {Integer.MIN_VALUE, Integer.MIN_VALUE + 1, -1000000001, -1, 0, 1, 2, 3, 5, 7, 8, 15, 16, 20, 31, 32, 40, 41, 50, 60,
@@ -150,6 +209,54 @@ public final class FaceTests {
                 } catch (InvocationTargetException e) {
                     fault(m.getName() + Arrays.toString(given) + " threw " + e.getCause());
                 }
+            }
+        }
+    }
+
+    /** README.md has each call with its arguments as the document names them, and each ERROR. */
+    private static void readmeTellsOfEachCall() throws Exception {
+        String page = Files.readString(Path.of("README.md"));
+        Matcher line = Pattern.compile("    public int (\\w+)\\((.*)\\);").matcher(Files.readString(Path.of("../shared/DOC.md")));
+        int calls = 0;
+        while (line.find()) {
+            calls++;
+            String call = line.group(1) + "(" + line.group(2).replaceAll("(int|long) ", "") + ")";
+            if (!page.contains("\n| `" + call + "` |")) {
+                fault("README.md has no row for " + call);
+            }
+        }
+        if (calls != 40) {
+            fault("the document has " + calls + " calls, not 40");
+        }
+        String[] errors = {"BEYOND", "NONE", "STATE", "FULL", "KIND"};
+        for (int k = 1; k <= errors.length; k++) {
+            if (!page.contains("\n| " + (-1000000000 - k) + " | " + errors[k - 1] + " |")) {
+                fault("README.md does not tell of " + errors[k - 1]);
+            }
+        }
+        if (!page.contains("\n.ci/run\n")) {
+            fault("README.md does not tell how the tests are run");
+        }
+    }
+
+    /** Each row of README.md's example answers what stands behind it. */
+    private static void readmeExample() throws Exception {
+        String page = Files.readString(Path.of("README.md"));
+        int begin = page.indexOf("```java\n");
+        String[] rows = page.substring(begin + 8, page.indexOf("```", begin + 8)).split("\n");
+        ReadingLight x = new ReadingLight();
+        int ship = x.goer(14, 3, 3);
+        String[] calls = {"int ship = x.goer(14, 3, 3);", "x.set(2, 3);", "x.first(0);", "x.steps(12);", "x.ofGoer(ship, 3);",
+            "x.feed(0x39313c64L, 4);", "x.text(0);", "x.as(ship, 2);", "x.told(5);"};
+        int[] answers = {ship, x.set(2, 3), x.first(0), x.steps(12), x.ofGoer(ship, 3),
+            x.feed(0x39313c64L, 4), x.text(0), x.as(ship, 2), x.told(5)};
+        if (rows.length != calls.length + 1 || !rows[0].equals("ReadingLight x = new ReadingLight();")) {
+            fault("README.md's example has other rows than this test");
+            return;
+        }
+        for (int i = 0; i < calls.length; i++) {
+            if (!rows[i + 1].matches(Pattern.quote(calls[i]) + " +// " + answers[i] + ": .*")) {
+                fault("README.md's example: " + rows[i + 1] + "; it answers " + answers[i]);
             }
         }
     }
